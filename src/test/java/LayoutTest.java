@@ -303,6 +303,47 @@ final class LayoutTest {
         due.are("17: one pushes the other", told(x), "240 0 0 2 2 0");
     }
 
+    /** What was LONG in one layout is SHORT in another one; nothing is NEXT behind the last BLOCK. */
+    private static void anew(Due due) {
+        FallRows x = of(1, 127, 1, 1);
+        x.end(0, 3, 2, 2, 0, 0);
+        due.are("15: LONG", laid(x, 0), "0 12 11 2 2 1");
+        due.is("17: LONG", x.told(3), 2);
+        x.move(3, 1);
+        x.move(2, 2);
+        due.are("15: SHORT in another order", laid(x, 0), "0 5 4 0 2 0");
+        due.are("16: SHORT in another order", image(x, 0, 9), "0 112 4 235 2 3 195 2 195");
+        due.are("17: SHORT in another order", told(x), "137 0 2 0 0 0");
+        x.undo();
+        x.undo();
+        due.are("15: LONG once more", laid(x, 0), "0 12 11 2 2 1");
+        x = of(1, 1);
+        x.end(1, 2, 0, 0, 0, 0);
+        due.are("16: the last BLOCK, GO", image(x, 0, 6), "0 195 1 235 251 -9");
+        x.end(1, 3, 0, 0, 0, 0);
+        due.are("16: the last BLOCK, TEST", image(x, 0, 8), "0 195 1 112 251 235 249 -9");
+        x.cold(1, true);
+        x.set(0, 1);
+        x.routine();
+        x.block(1, 1);
+        due.are("16: the last BLOCK, APART", image(x, 0, 10), "0 195 2 195 1 112 249 235 247 -9");
+    }
+
+    private static void fullest(Due due) {
+        FallRows x = new FallRows();
+        for (int b = 0; b < 40; b++) {
+            if (b % 9 == 0) {
+                x.routine();
+            }
+            x.block(b / 9, 200);
+            x.end(b, b == 39 ? 6 : 4, b / 9 * 9, b, b, b);
+        }
+        x.set(1, 16);
+        due.are("17: the fullest row", told(x), "8949 156 0 1 1 8");
+        due.are("16: the fullest row", image(x, 8940, 8950), "255 32 34 0 0 32 34 0 0 -9");
+        due.is("25: the fullest row", x.differ(), NONE);
+    }
+
     private static void aligned(Due due) {
         FallRows x = of(3, 1, 14);
         x.end(1, 6, 2, 0, 0, 0);
@@ -325,6 +366,8 @@ final class LayoutTest {
         reach(due);
         turns(due);
         aligned(due);
+        anew(due);
+        fullest(due);
         FallRows x = of(5);
         due.is("15: BLOCK 1", x.laid(1, 0), BAD);
         due.is("15: BLOCK -1", x.laid(-1, 0), BAD);

@@ -169,8 +169,24 @@ final class RunsTest {
         due.are("21: a TURNED one stays", ran(x, LAID), "0 2 1 0 51 0 0 1 1");
     }
 
+    /** LONG ones of each kind, on and back, and a TABLE of one. */
+    private static void farAway(Due due) {
+        FallRows x = LayoutTest.of(1, 200, 1, 200, 1);
+        x.end(0, 3, 4, 2, 0, 0);
+        x.end(2, 3, 3, 0, 0, 0);
+        x.end(4, 4, 2, -1, 0, 0);
+        x.say(0x01010009, 4);
+        both(due, "20: LONG ones", x, 0, FallRows.BACK, "0 2 0 4 2 3");
+        due.is("17: LONG ones", x.told(3), 3);
+        due.are("21: LONG ones", ran(x, LAID), "0 6 5 0 160 1 2 2 3");
+        x.end(0, 2, 3, 0, 0, 0);
+        both(due, "20: a LONG JUMP", x, 0, FallRows.BACK, "0 3");
+        due.are("21: a LONG JUMP", ran(x, LAID), "0 2 0 0 102 1 0 0 2");
+    }
+
     private static void promises20to22(Due due) {
         choices(due);
+        farAway(due);
         calls(due);
         atTwoHundred(due);
         costs(due);
