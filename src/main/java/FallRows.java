@@ -855,6 +855,8 @@ public final class FallRows {
                 firstOf[i] = i;
                 follower[i] = NOWHERE;
                 isPlaced[i] = false;
+                isUsed[2 * i] = false;
+                isUsed[2 * i + 1] = false;
             }
             joinAll();
             place(0, ranks);
@@ -864,7 +866,6 @@ public final class FallRows {
         }
 
         private void joinAll() {
-            Arrays.fill(isUsed, false);
             for (int i = 0; i < 2 * n; i++) {
                 int edge = greatest();
                 if (edge == NOWHERE) {
@@ -1261,9 +1262,8 @@ public final class FallRows {
         }
 
         private void fillTo(int stop, int value) {
-            if (at < stop && stop <= BYTES_MOST) {
-                Arrays.fill(bytes, at, stop, (byte) value);
-                at = stop;
+            for (int i = at; i < stop; i++) {
+                put(value);
             }
         }
 
