@@ -60,4 +60,15 @@ final class Bound {
             are(call + " changes nothing", part.on(with), part.on(made(state)));
         }
     }
+
+    /** What is asked behind a change is the same, whether or not it was asked ahead of it, too. */
+    void laysAnew(String call, Told state, Told change) {
+        Told both = state.then(change);
+        for (Probes.Part part : Probes.of(made(both))) {
+            FallRows asked = made(state);
+            asked.image(0);
+            change.on(asked);
+            are(call + " lays all anew", part.on(asked), part.on(made(both)));
+        }
+    }
 }

@@ -53,6 +53,9 @@ final class LayoutBoundsTest {
         Bound.Told apart = States.routines(2).then(States.blocks(0, 2)).then(States.blocks(1, 2))
             .then(x -> x.cold(1, true)).then(x -> x.cold(3, true)).then(States.end(0, GO, 1)).then(States.end(1, GO, 0));
         b.are("NEXT in its order, APART off", image(apart), "0 1 235 252 2 195 3 195");
+        Bound.Told alone = States.routines(2).then(States.blocks(0, 1)).then(States.blocks(1, 2)).then(x -> x.cold(2, true))
+            .then(x -> x.set(0, 1)).then(States.end(1, GO, 2));
+        b.are("a COLD one is NEXT, APART on", image(alone), "0 195 1 2 195");
         b.are("not NEXT in THE ROW, APART on", image(apart.then(x -> x.set(0, 1))), "0 235 2 2 195 1 235 248 3 195");
     }
 
@@ -74,7 +77,8 @@ final class LayoutBoundsTest {
     }
 
     private static void tableAtEachAddress(Due due) {
-        Bound b = new Bound(due, "2", "then bytes 0, until the address is a multiple of 4 (the first of both at any address)");
+        Bound b = new Bound(due, "2",
+            "then bytes 0, until the address is a multiple of 4 (the first of both at any address)");
         String[] fill = {" 0 0", " 0", "", " 0 0 0"};
         for (int size = 1; size <= 200; size += size < 9 || size >= 193 ? 1 : 23) {
             int bytes = size;
@@ -124,7 +128,7 @@ final class LayoutBoundsTest {
 
     /** On: BLOCK 0 of one byte, a filler with BACK, then BLOCK 2. */
     private static void shortOn(Due due) {
-        Bound b = new Bound(due, "2", "SHORT ones in 1 byte (-128 .. 127): 127");
+        Bound b = new Bound(due, "2", "SHORT ones in 1 byte (-128 .. 127)");
         edge(b, "GO", f -> sizes(1, f, 1).then(States.end(0, GO, 2)), 0, 126, 0, "235 127");
         edge(b, "CALL's WAY", f -> sizes(1, f, 1).then(States.end(0, CALL, 2, 0)), 0, 126, 5, "235 127");
         edge(b, "GUARDED", f -> sizes(1, f, 1).then(States.end(0, GUARDED, 2, 1)), 0, 126, 0, "235 127");
@@ -136,7 +140,7 @@ final class LayoutBoundsTest {
 
     /** Back: a filler with BACK, then BLOCK 1 of one byte that goes to it; BLOCK 2 is behind. */
     private static void shortBack(Due due) {
-        Bound b = new Bound(due, "2", "SHORT ones in 1 byte (-128 .. 127): -128");
+        Bound b = new Bound(due, "2", "SHORT ones in 1 byte (-128 .. 127)");
         edge(b, "GO", f -> sizes(f, 1, 1).then(States.end(1, GO, 0)), 1, 124, 0, "235 128");
         edge(b, "CALL's WAY", f -> sizes(f, 1, 1).then(States.end(1, CALL, 0, 0)), 1, 119, 5, "235 128");
         edge(b, "GUARDED", f -> sizes(f, 1, 1).then(States.end(1, GUARDED, 0, 1)), 1, 124, 0, "235 128");
@@ -171,7 +175,8 @@ final class LayoutBoundsTest {
     }
 
     private static void aligned(Due due) {
-        Bound b = new Bound(due, "2", "each BLOCK at the next multiple of ALIGN (1, 2, 4, 8, 16; 1 at first), bytes 144 between");
+        Bound b = new Bound(due, "2",
+            "each BLOCK at the next multiple of ALIGN (1, 2, 4, 8, 16; 1 at first), bytes 144 between");
         b.answers("1 at first", States::none, x -> x.has(4), 1);
         for (int align : ALIGNS) {
             Bound.Told fits = sizes(2 * align - 1, 1).then(x -> x.set(1, align));
@@ -193,7 +198,9 @@ final class LayoutBoundsTest {
     }
 
     private static void tableBehindAll(Due due) {
-        Bound b = new Bound(due, "2", "Behind all, for each GUARDED one in THE ROW's order: its address and that of WAY 1, in 4 bytes each.");
+        Bound b = new Bound(due, "2",
+            "Behind all, for each GUARDED one in THE ROW's order: its address and that of WAY 1, in 4 bytes "
+                + "each.");
         b.answers("none is", States.one(3), x -> x.told(5), 0);
         Bound.Told one = sizes(200, 99, 1).then(States.end(1, GUARDED, 2, 0)).then(x -> x.set(1, 16));
         b.answers("one is", one, x -> x.told(5), 8);
@@ -267,6 +274,22 @@ final class LayoutBoundsTest {
         b.is("TURNS", x.told(4), 0);
     }
 
+    private static void shortAtFirst(Due due) {
+        Bound b = new Bound(due, "2", "All SHORT at first");
+        FallRows x = Bound.made(sizes(1, 127, 1, 1).then(States.end(0, TEST, 2, 2)));
+        b.are("LONG ones", LayoutTest.laid(x, 0), "0 12 11 2 2 1");
+        b.are("LONG ones", LayoutTest.told(x), "144 0 0 2 1 0");
+        x.move(1, 3);
+        x.move(3, 1);
+        b.are("of another order, SHORT again", LayoutTest.laid(x, 0), "0 5 4 0 2 0");
+        b.are("of another order, SHORT again", LayoutTest.told(x), "137 0 2 0 0 0");
+        b.are("their bytes", LayoutTest.image(x, 0, 9), "0 112 4 235 2 3 195 2 195");
+        x = Bound.made(sizes(1, 1, 1, 127, 1).then(States.end(2, TEST, 4, 4)));
+        b.are("another BLOCK's LONG ones", LayoutTest.laid(x, 2), "4 16 11 2 2 1");
+        x.move(3, 1);
+        b.are("another BLOCK's, SHORT again", LayoutTest.laid(x, 2), "132 135 2 0 1 0");
+    }
+
     private static void noneGetsShortAgain(Due due) {
         Bound b = new Bound(due, "2", "(None gets SHORT again.)");
         // Of the JUMP's 3 bytes more the TABLE's 3 bytes 0 make room: BLOCK 2 stays where it was.
@@ -281,7 +304,8 @@ final class LayoutBoundsTest {
     // ---- Promises
 
     private static void moves(Due due) {
-        Bound b = new Bound(due, "8", "A BLOCK comes to a place (1 .. ) of its ROUTINE's order; those between move by one");
+        Bound b = new Bound(due, "8",
+            "A BLOCK comes to a place (1 .. ) of its ROUTINE's order; those between move by one");
         Bound.Told nine = States.routines(2).then(States.blocks(0, 9)).then(States.blocks(1, 2));
         b.are("from the first place to the last", LayoutTest.row(Bound.made(nine.then(x -> x.move(1, 8)))),
             "0 2 3 4 5 6 7 8 1 9 10");
@@ -313,7 +337,8 @@ final class LayoutBoundsTest {
     }
 
     private static void swaps(Due due) {
-        Bound b = new Bound(due, "9", "Two BLOCKS of one ROUTINE change places: 1. BAD: also the first one, of two ROUTINES.");
+        Bound b = new Bound(due, "9",
+            "Two BLOCKS of one ROUTINE change places: 1. BAD: also the first one, of two ROUTINES.");
         b.are("the outermost", LayoutTest.row(Bound.made(States.one(9).then(x -> x.swap(8, 1)))), "0 8 2 3 4 5 6 7 1");
         b.answers("the outermost", States.one(9), x -> x.swap(1, 8), 1);
         b.refuses("the first one", States::rich, x -> x.swap(0, 2), BAD);
@@ -371,6 +396,24 @@ final class LayoutBoundsTest {
         };
     }
 
+    private static void twelveOfTwoRoutines(Due due) {
+        Bound b = new Bound(due, "11", "The latest move(), swap() or order() is undone (12 are kept");
+        Bound.Told three = States.routines(2).then(States.blocks(0, 3)).then(States.blocks(1, 3));
+        // By turns, ROUTINE 0 first: behind 4 of them all is as it was.
+        FallRows x = Bound.made(three.then(y -> {
+            for (int i = 0; i < 13; i++) {
+                y.swap(i % 2 == 0 ? 1 : 4, i % 2 == 0 ? 2 : 5);
+            }
+        }));
+        b.are("behind 13", LayoutTest.row(x), "0 2 1 3 4 5");
+        String[] behind = {"0 1 2 3 4 5", "0 2 1 3 4 5", "0 2 1 3 5 4", "0 1 2 3 5 4"};
+        for (int left = 11; left >= 0; left--) {
+            b.is("undone", x.undo(), left);
+            b.are("undone, " + left + " left", LayoutTest.row(x), behind[(left + 1) % 4]);
+        }
+        b.is("the oldest is not", x.undo(), STATE);
+    }
+
     private static void blockForgetsAll(Due due) {
         Bound b = new Bound(due, "11", "a block() that comes forgets all");
         Bound.Told kept = States.routines(2).then(States.blocks(0, 9)).then(again(3));
@@ -400,7 +443,8 @@ final class LayoutBoundsTest {
     }
 
     private static void settings(Due due) {
-        Bound b = new Bound(due, "12", "APART on or off (what = 0: on is 1, 0), ALIGN (1: on is that), k of COST (2): what it was. BAD.");
+        Bound b = new Bound(due, "12",
+            "APART on or off (what = 0: on is 1, 0), ALIGN (1: on is that), k of COST (2): what it was. BAD.");
         b.answers("APART on", States::none, x -> x.set(0, 1), 0);
         b.answers("APART off", States::rich, x -> x.set(0, 0), 1);
         for (int on : new int[] {-1, 2, BELOW, ABOVE}) {
@@ -442,7 +486,9 @@ final class LayoutBoundsTest {
     }
 
     private static void laidEnds(Due due) {
-        Bound b = new Bound(due, "15", "3 how many of its JUMPS (TEST JUMPS, too) are LONG, 4 how many there are, 5 the TURN in which the latest of these became LONG (0). BAD.");
+        Bound b = new Bound(due, "15",
+            "3 how many of its JUMPS (TEST JUMPS, too) are LONG, 4 how many there are, 5 the TURN in which the "
+                + "latest of these became LONG (0). BAD.");
         FallRows x = Bound.made(States.one(1));
         b.are("no JUMPS", LayoutTest.laid(x, 0), "0 2 1 0 0 0");
         x = Bound.made(sizes(1, 200, 1).then(States.end(0, TEST, 2, 2)));
@@ -479,7 +525,7 @@ final class LayoutBoundsTest {
     }
 
     private static void fullestImage(Due due) {
-        Bound b = new Bound(due, "16", "Byte i of what is laid; NONE: none such. (as many as can be)");
+        Bound b = new Bound(due, "16", "Byte i of what is laid; NONE: none such.");
         Bound.Told most = States.routines(5).then(x -> {
             for (int block = 0; block < 40; block++) {
                 x.block(block / 8, 199);
@@ -487,15 +533,35 @@ final class LayoutBoundsTest {
             }
             x.set(1, 16);
         });
-        b.answers("bytes", most, x -> x.told(0), 39 * 224 + 220);
+        b.answers("as many bytes as can be", most, x -> x.told(0), 39 * 224 + 220);
         b.answers("the last address", most, x -> x.image(8952) + 256 * x.image(8953), 39 * 224);
         b.answers("the last byte", most, x -> x.image(8955), 0);
         b.answers("no byte more", most, x -> x.image(8956), NONE);
         b.answers("runs", most, x -> x.differ(), NONE);
     }
 
+    private static void laidAnew(Due due) {
+        Bound b = new Bound(due, "2", "ENDS become bytes, by what is NEXT in THE ROW");
+        b.laysAnew("block()", States::unlaid, x -> x.block(0, 9));
+        b.laysAnew("end()", States::unlaid, x -> x.end(0, TABLE, 0, 2, 3, -1));
+        b.laysAnew("cold()", States::unlaid, x -> x.cold(3, true));
+        b.laysAnew("move()", States::unlaid, x -> x.move(2, 1));
+        b.laysAnew("swap()", States::unlaid, x -> x.swap(2, 3));
+        for (int how = 0; how <= 3; how++) {
+            int sort = how;
+            b.laysAnew("order(0, " + how + ")", States::unlaid, x -> x.order(0, sort));
+        }
+        b.laysAnew("undo()", States::unlaid, x -> x.undo());
+        b.laysAnew("set(0, 0)", States::unlaid, x -> x.set(0, 0));
+        b.laysAnew("set(1, 16)", States::unlaid, x -> x.set(1, 16));
+        b.laysAnew("set(2, 0)", States::unlaid, x -> x.set(2, 0));
+        b.laysAnew("learn()", States::unlaid, x -> x.learn());
+    }
+
     private static void toldOfAll(Due due) {
-        Bound b = new Bound(due, "17", "Of what is laid: 0 bytes, 1 bytes between BLOCKS (144), 2 SHORT ones, 3 LONG ones, 4 TURNS in which some became LONG, 5 bytes of THE TABLE behind all. BAD.");
+        Bound b = new Bound(due, "17",
+            "Of what is laid: 0 bytes, 1 bytes between BLOCKS (144), 2 SHORT ones, 3 LONG ones, 4 TURNS in "
+                + "which some became LONG, 5 bytes of THE TABLE behind all. BAD.");
         b.are("nothing is laid", LayoutTest.told(new FallRows()), "0 0 0 0 0 0");
         b.are("the least", LayoutTest.told(Bound.made(States.one(1))), "2 0 0 0 0 0");
         FallRows x = Bound.made(sizes(3, 127, 1, 9).then(States.end(0, TEST, 2, 0)).then(States.end(2, GUARDED, 1, 3))
@@ -522,11 +588,14 @@ final class LayoutBoundsTest {
         tableBehindAll(due);
         turns(due);
         turnsOneByOne(due);
+        shortAtFirst(due);
         noneGetsShortAgain(due);
+        laidAnew(due);
         moves(due);
         movesRefused(due);
         swaps(due);
         twelveAreKept(due);
+        twelveOfTwoRoutines(due);
         blockForgetsAll(due);
         noneToUndo(due);
         settings(due);

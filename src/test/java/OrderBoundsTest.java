@@ -26,7 +26,8 @@ final class OrderBoundsTest {
     // ---- Terms
 
     private static void asIfAlone(Due due) {
-        Bound b = new Bound(due, "3", "WEIGHT of an order of a ROUTINE's BLOCKS, by COUNTS, as if it were THE ROW alone");
+        Bound b = new Bound(due, "3",
+            "WEIGHT of an order of a ROUTINE's BLOCKS, by COUNTS, as if it were THE ROW alone");
         Bound.Told back = States.one(3).then(go(2, 0, 7));
         b.answers("nothing is NEXT behind the last one", back, x -> x.weight(0, 0), 14);
         b.answers("the only one", States.one(1).then(go(0, 0, 7)), x -> x.weight(0, 0), 14);
@@ -72,7 +73,9 @@ final class OrderBoundsTest {
     }
 
     private static void best(Due due) {
-        Bound b = new Bound(due, "3", "of all orders that begin with the first BLOCK the one of least WEIGHT; of several the first (compared from the left, by numbers)");
+        Bound b = new Bound(due, "3",
+            "of all orders that begin with the first BLOCK the one of least WEIGHT; of several the first "
+                + "(compared from the left, by numbers)");
         ordered(b, "of one", States.one(1).then(go(0, 0, 5)), BEST, 10, "0");
         ordered(b, "of two", States.one(2).then(go(1, 0, 5)), BEST, 10, "0 1");
         Bound.Told turned = States.one(9).then(x -> {
@@ -104,7 +107,9 @@ final class OrderBoundsTest {
     }
 
     private static void bound(Due due) {
-        Bound b = new Bound(due, "3", "BOUND: the sum over BLOCKS of the least that each costs, whatever is NEXT (also if nothing could be).");
+        Bound b = new Bound(due, "3",
+            "BOUND: the sum over BLOCKS of the least that each costs, whatever is NEXT (also if nothing could "
+                + "be).");
         b.answers("GO of the only one", States.one(1).then(go(0, 0, 5)), x -> x.weight(0, 2), 0);
         b.answers("GO of all to the first", States.one(2).then(go(0, 0, 5)).then(go(1, 0, 5)), x -> x.weight(0, 2), 0);
         b.answers("TEST, c less", States.one(1).then(two(TEST, 0, 0, 10, 0, 100)), x -> x.weight(0, 2), 130);
@@ -117,7 +122,8 @@ final class OrderBoundsTest {
     }
 
     private static void local(Due due) {
-        Bound b = new Bound(due, "3", "of all pairs i < j of places 1 .., by i, then j: the first that makes the WEIGHT less");
+        Bound b = new Bound(due, "3",
+            "of all pairs i < j of places 1 .., by i, then j: the first that makes the WEIGHT less");
         ordered(b, "of one", States.one(1).then(go(0, 0, 5)), LOCAL, 10, "0");
         ordered(b, "of two", States.one(2).then(go(1, 0, 5)), LOCAL, 10, "0 1");
         ordered(b, "the only pair", States.one(3).then(go(0, 2, 1)), LOCAL, 0, "0 2 1");
@@ -131,7 +137,9 @@ final class OrderBoundsTest {
     }
 
     private static void localByTurns(Due due) {
-        Bound b = new Bound(due, "3", "or, if no pair does so: those from i to j are turned round; or, if none: the one at i comes to j (those behind it to j one ahead); or: the one at j comes to i; till none does.");
+        Bound b = new Bound(due, "3",
+            "or, if no pair does so: those from i to j are turned round; or, if none: the one at i comes to j "
+                + "(those behind it to j one ahead); or: the one at j comes to i; till none does.");
         ordered(b, "change places", States.one(5).then(go(3, 2, 5)), LOCAL, 0, "0 3 2 1 4");
         ordered(b, "turned round", States.one(5).then(go(0, 4, 1)).then(go(1, 2, 1)).then(go(3, 2, 1)), LOCAL, 2,
             "0 4 3 2 1");
@@ -142,6 +150,17 @@ final class OrderBoundsTest {
             far = far.then(go(block, block + 1, 1));
         }
         ordered(b, "the last comes to the first place", far, LOCAL, 0, "0 8 1 2 3 4 5 6 7");
+    }
+
+    private static void localAnew(Due due) {
+        Bound b = new Bound(due, "3", "till none does. (After each change all anew.)");
+        ordered(b, "two changes", States.one(7).then(go(0, 2, 5)).then(go(4, 6, 5)), LOCAL, 0, "0 2 1 3 5 4 6");
+        // 0 3 2 1 4, then 0 4 2 1 3, then 0 4 3 1 2, then this one.
+        ordered(b, "four changes", States.one(5).then(go(0, 4, 5)).then(go(4, 3, 5)).then(go(3, 2, 1)),
+            LOCAL, 0, "0 4 3 2 1");
+        FallRows x = Bound.made(States.one(7).then(go(0, 2, 5)).then(go(4, 6, 5)).then(y -> y.order(0, LOCAL)));
+        b.is("none more", x.order(0, LOCAL), 0);
+        b.are("none more", LayoutTest.row(x), "0 2 1 3 5 4 6");
     }
 
     private static void chainsByCounts(Due due) {
@@ -167,10 +186,16 @@ final class OrderBoundsTest {
         ordered(b, "by BLOCKS", three.then(go(1, 3, 2)).then(go(2, 3, 2)), CHAINS, 4, "0 1 3 2");
         ordered(b, "by WAYS", three.then(two(TEST, 0, 3, 2, 2, 2)), CHAINS, 2 + 6, "0 3 2 1");
         ordered(b, "a greater WAY 1", three.then(two(TEST, 0, 3, 2, 2, 3)), CHAINS, 6 + 3, "0 2 3 1");
+        ordered(b, "1 behind a greater one", three.then(go(0, 3, 5)).then(go(2, 1, 1)), CHAINS, 0, "0 3 2 1");
+        Bound.Told all = three.then(two(TEST, 0, 0, 9, 0, 9)).then(two(TEST, 1, 0, 9, 0, 9))
+            .then(two(TEST, 2, 0, 9, 0, 9)).then(two(TEST, 3, 0, 9, 1, 1));
+        ordered(b, "all eight, of which the last one counts", all, CHAINS, 3 * 54 + 27 + 1, "0 2 3 1");
     }
 
     private static void chainsJoin(Due due) {
-        Bound b = new Bound(due, "3", "if the BLOCK is the last of its CHAIN, and the WAY's is the first of another one, and not the ROUTINE's first, both become one.");
+        Bound b = new Bound(due, "3",
+            "if the BLOCK is the last of its CHAIN, and the WAY's is the first of another one, and not the "
+                + "ROUTINE's first, both become one.");
         ordered(b, "not the last of its CHAIN", States.one(4).then(two(TEST, 0, 3, 9, 1, 8)), CHAINS, 9 + 24, "0 3 1 2");
         ordered(b, "not the first of another", States.one(4).then(go(2, 3, 9)).then(go(1, 3, 8)), CHAINS, 16, "0 1 2 3");
         ordered(b, "not of its own", States.one(4).then(go(2, 1, 9)).then(go(1, 2, 8)), CHAINS, 16, "0 2 1 3");
@@ -184,7 +209,9 @@ final class OrderBoundsTest {
     }
 
     private static void chainsPlaced(Due due) {
-        Bound b = new Bound(due, "3", "then always the one to which WAYS of what is there lead by the greatest sum of COUNTS (of several that with the least first BLOCK)");
+        Bound b = new Bound(due, "3",
+            "then always the one to which WAYS of what is there lead by the greatest sum of COUNTS (of several "
+                + "that with the least first BLOCK)");
         // CHAINS 0, 2, 3 1: by their first BLOCKS 2 is the least, not the one that 1 is in.
         ordered(b, "of several", States.one(4).then(go(3, 1, 5)), CHAINS, 0, "0 2 3 1");
         Bound.Told table = States.one(4).then(States.end(0, TABLE, 3, 2, 3, -1));
@@ -197,10 +224,29 @@ final class OrderBoundsTest {
             States.one(5).then(two(TABLE, 4, 3, MOST, 3, MOST)), CHAINS, 0, "0 1 2 3 4");
     }
 
+    private static void chainsAgain(Due due) {
+        Bound b = new Bound(due, "3", "CHAINS: each BLOCK is one");
+        FallRows x = Bound.made(States.one(9).then(y -> y.routine()).then(States.blocks(1, 4)).then(go(8, 1, 5))
+            .then(two(TEST, 11, 9, 0, 10, 5)));
+        for (int time = 1; time <= 2; time++) {
+            b.is("ROUTINE 1, time " + time, x.order(1, CHAINS), 5);
+            b.are("ROUTINE 1, time " + time, LayoutTest.row(x), "0 1 2 3 4 5 6 7 8 9 11 10 12");
+            b.is("ROUTINE 0, time " + time, x.order(0, CHAINS), 0);
+            b.are("ROUTINE 0, time " + time, LayoutTest.row(x), "0 2 3 4 5 6 7 8 1 9 11 10 12");
+            x.order(0, CAME);
+            x.order(1, CAME);
+        }
+        x.order(1, CHAINS);
+        x.order(1, CAME);
+        b.is("ROUTINE 1, none of another one between", x.order(1, CHAINS), 5);
+    }
+
     // ---- Promises
 
     private static void ordersRefused(Due due) {
-        Bound b = new Bound(due, "10", "how = 0 as they came, 1 BEST, 2 LOCAL (from what it is), 3 by CHAINS: its WEIGHT. BAD: also without BLOCKS.");
+        Bound b = new Bound(due, "10",
+            "how = 0 as they came, 1 BEST, 2 LOCAL (from what it is), 3 by CHAINS: its WEIGHT. BAD: also "
+                + "without BLOCKS.");
         for (int how = CAME; how <= CHAINS; how++) {
             int sort = how;
             b.answers("the only BLOCK, how " + how, States::rich, x -> x.order(2, sort), 0);
@@ -217,13 +263,17 @@ final class OrderBoundsTest {
         b.is("as they came", x.order(0, CAME), 5 + 27 + 0 + 12);
         b.are("as they came", LayoutTest.row(x), "0 2 3 1 6 7 5 4");
         b.is("one more to undo", x.has(6), 4);
+        ordered(b, "nine as they came", States.one(9).then(y -> y.move(1, 8)).then(y -> y.move(8, 1)), CAME, 0,
+            "0 1 2 3 4 5 6 7 8");
         x = Bound.made(States.one(4).then(go(0, 2, 1)).then(y -> y.swap(2, 3)).then(y -> y.swap(1, 2)));
         b.is("LOCAL from what it is", x.order(0, LOCAL), 0);
         b.are("LOCAL from what it is", LayoutTest.row(x), "0 2 3 1");
     }
 
     private static void weightsRefused(Due due) {
-        Bound b = new Bound(due, "13", "WEIGHT of a ROUTINE's order (0), that of BEST (1), BOUND (2), pairs that fall: BLOCKS of which a WAY is NEXT in its order (3). BAD: also without BLOCKS.");
+        Bound b = new Bound(due, "13",
+            "WEIGHT of a ROUTINE's order (0), that of BEST (1), BOUND (2), pairs that fall: BLOCKS of which a "
+                + "WAY is NEXT in its order (3). BAD: also without BLOCKS.");
         for (int what = 0; what <= 3; what++) {
             int asked = what;
             b.answers("the only BLOCK, what " + what, States::rich, x -> x.weight(2, asked), 0);
@@ -266,10 +316,12 @@ final class OrderBoundsTest {
         bound(due);
         local(due);
         localByTurns(due);
+        localAnew(due);
         chainsByCounts(due);
         chainsInTurn(due);
         chainsJoin(due);
         chainsPlaced(due);
+        chainsAgain(due);
         ordersRefused(due);
         weightsRefused(due);
         pairsThatFall(due);

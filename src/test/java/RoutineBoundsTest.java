@@ -341,7 +341,8 @@ final class RoutineBoundsTest {
     }
 
     private static void coldOrNot(Due due) {
-        Bound b = new Bound(due, "6", "A BLOCK is COLD, or not: what it was (1, 0). BAD: also the first one of its ROUTINE.");
+        Bound b = new Bound(due, "6",
+            "A BLOCK is COLD, or not: what it was (1, 0). BAD: also the first one of its ROUTINE.");
         FallRows x = Bound.made(States.one(2));
         b.is("not at first", x.cold(1, false), 0);
         b.is("it becomes so", x.cold(1, true), 0);
@@ -357,7 +358,8 @@ final class RoutineBoundsTest {
     }
 
     private static void aboutABlock(Due due) {
-        Bound b = new Bound(due, "7", "6 .. 9 these (NONE), 10 .. 13 their COUNTS (NONE), 14 the ROUTINE that it calls (NONE). BAD.");
+        Bound b = new Bound(due, "7",
+            "6 .. 9 these (NONE), 10 .. 13 their COUNTS (NONE), 14 the ROUTINE that it calls (NONE). BAD.");
         FallRows x = Bound.made(States::rich);
         b.are("BACK", RoutinesTest.about(x, 6), "1 9 0 0 1 0 -9 -9 -9 -9 -9 -9 -9 -9 -9");
         b.are("TRAP", RoutinesTest.about(x, 4), "1 66 1 1 2 0 -9 -9 -9 -9 -9 -9 -9 -9 -9");

@@ -108,7 +108,8 @@ final class RunBoundsTest {
     // ---- Terms: how a run ends
 
     private static void backWithoutACall(Due due) {
-        Bound b = new Bound(due, "1", "BACK goes on with the WAY of the CALL that is open latest; without one the run ends: BACK.");
+        Bound b = new Bound(due, "1",
+            "BACK goes on with the WAY of the CALL that is open latest; without one the run ends: BACK.");
         both(b, "without one", States.one(1), 0, FallRows.BACK, "0");
         Bound.Told calls = States.routines(3).then(States.blocks(0, 2)).then(States.blocks(1, 2)).then(States.blocks(2, 1))
             .then(States.end(0, CALL, 1, 1)).then(States.end(2, CALL, 3, 2));
@@ -196,7 +197,8 @@ final class RunBoundsTest {
     }
 
     private static void deepOrLong(Due due) {
-        Bound b = new Bound(due, "1", "DEEP at a CALL when 8 are open; LONG, when 200 BLOCKS were passed, and another one would be.");
+        Bound b = new Bound(due, "1",
+            "DEEP at a CALL when 8 are open; LONG, when 200 BLOCKS were passed, and another one would be.");
         passesSoMany(b, "DEEP at the 199th", deepAt(190), FallRows.DEEP, 199, 2);
         passesSoMany(b, "DEEP at the 200th", deepAt(191), FallRows.DEEP, 200, 2);
         passesSoMany(b, "DEEP would be the 201st", deepAt(192), FallRows.LONG, 200, 2);
@@ -216,7 +218,8 @@ final class RunBoundsTest {
     }
 
     private static void choicesOfLaidRuns(Due due) {
-        Bound b = new Bound(due, "2", "a TEST JUMP jumps by an even one, a TURNED one by an odd one; a JUMP behind a TEST JUMP takes none");
+        Bound b = new Bound(due, "2",
+            "a TEST JUMP jumps by an even one, a TURNED one by an odd one; a JUMP behind a TEST JUMP takes none");
         Bound.Told turned = States.one(3).then(States.end(0, TEST, 1, 2));
         b.are("a TURNED one, even", cost(turned.then(x -> x.say(254, 1))), "0 2 1 0 51 0 0 1 1");
         b.are("a TURNED one, odd", cost(turned.then(x -> x.say(255, 1))), "0 2 1 0 53 0 1 0 1");
@@ -282,7 +285,9 @@ final class RunBoundsTest {
     }
 
     private static void lastKPages(Due due) {
-        Bound b = new Bound(due, "2", "that is not one of the last k such, 50 (the latest one counts anew as it is touched; k 0 .. 8; 4 at first)");
+        Bound b = new Bound(due, "2",
+            "that is not one of the last k such, 50 (the latest one counts anew as it is touched; k 0 .. 8; 4 "
+                + "at first)");
         for (int n = 1; n <= 9; n++) {
             for (int k = 0; k <= 8; k++) {
                 int kept = k;
@@ -311,10 +316,29 @@ final class RunBoundsTest {
         b.are("missed", x.pages(0) + " " + x.pages(1) + " " + x.pages(2) + " " + x.pages(3) + " " + x.pages(4), "12 12 7 4 4");
     }
 
+    private static void badIsFirst(Due due) {
+        Bound b = new Bound(due, "0",
+            "Refused, and nothing changes, the first of these: BAD (a number is not as told, or there is no "
+                + "such thing), STATE (as told), FULL.");
+        b.refuses("block(), BAD and FULL of 40", States::full, x -> x.block(5, 201), BAD);
+        b.refuses("block(), BAD and FULL of nine", States.one(9), x -> x.block(0, 0), BAD);
+        b.refuses("block(), no such thing, and FULL of 40", States::full, x -> x.block(6, 1), BAD);
+        b.refuses("block(), FULL alone", States::full, x -> x.block(5, 200), FULL);
+        b.refuses("say(), BAD and FULL", States::full, x -> x.say(0, 9), BAD);
+        b.refuses("say(), BAD and FULL", States::full, x -> x.say(0, 0), BAD);
+        b.refuses("say(), FULL alone", States::full, x -> x.say(0, 1), FULL);
+        b.refuses("pages(), BAD and STATE", States.one(1), x -> x.pages(9), BAD);
+        b.refuses("pages(), STATE alone", States.one(1), x -> x.pages(8), STATE);
+        b.refuses("ran(), BAD where NONE is due", States.one(1), x -> x.ran(0, 9), BAD);
+        b.refuses("passed(), BAD where NONE is due", States.one(1), x -> x.passed(2, 0), BAD);
+    }
+
     // ---- Promises
 
     private static void says(Due due) {
-        Bound b = new Bound(due, "18", "n (1 .. 8) bytes come to THE TAPE, the highest one of the n lowest first: how many it has. BAD; FULL.");
+        Bound b = new Bound(due, "18",
+            "n (1 .. 8) bytes come to THE TAPE, the highest one of the n lowest first: how many it has. BAD; "
+                + "FULL.");
         for (int n = 1; n <= 8; n++) {
             int bytes = n;
             b.answers("n " + n, States::none, x -> x.say(-1L, bytes), n);
@@ -409,6 +433,23 @@ final class RunBoundsTest {
         }
     }
 
+    private static void latestRun(Due due) {
+        Bound b = new Bound(due, "21", "Of the latest run of that sort");
+        Bound.Told jumps = States.one(3).then(States.end(0, TEST, 2, 0)).then(x -> x.say(1, 1));
+        Bound.Told calls = nested(9);
+        for (int sort = PLAIN; sort <= LAID; sort++) {
+            int how = sort;
+            String least = sort == PLAIN ? "0 1 0 0 0 0 0 0 0" : "0 1 0 0 50 0 0 0 1";
+            for (Bound.Told state : new Bound.Told[] {jumps, calls, passes(200)}) {
+                Bound.Told ran = state.then(x -> x.run(0, how)).then(x -> x.run(2, how));
+                b.are("a short one behind a longer one, sort " + sort, RunsTest.ran(Bound.made(ran), sort), least);
+                b.are("the other sort is as it was, " + sort,
+                    RunsTest.ran(Bound.made(state.then(x -> x.run(0, how)).then(x -> x.run(2, 1 - how))), sort),
+                    RunsTest.ran(Bound.made(state.then(x -> x.run(0, how))), sort));
+            }
+        }
+    }
+
     private static void passedRefused(Due due) {
         Bound b = new Bound(due, "22", "The i-th BLOCK that the latest run of that sort passed; NONE. BAD.");
         for (int how = PLAIN; how <= LAID; how++) {
@@ -433,7 +474,9 @@ final class RunBoundsTest {
     }
 
     private static void learned(Due due) {
-        Bound b = new Bound(due, "23", "COUNTS become, of each WAY (CALL's too), how often the latest PLAIN run took it: how many BLOCKS it passed.");
+        Bound b = new Bound(due, "23",
+            "COUNTS become, of each WAY (CALL's too), how often the latest PLAIN run took it: how many BLOCKS "
+                + "it passed.");
         b.answers("of one BLOCK", States.one(1).then(x -> x.run(0, PLAIN)), x -> x.learn(), 1);
         b.answers("of 200", passes(200).then(x -> x.run(0, PLAIN)), x -> x.learn(), 200);
         FallRows x = Bound.made(passes(200).then(y -> y.run(0, PLAIN)).then(y -> y.learn()));
@@ -506,7 +549,8 @@ final class RunBoundsTest {
     }
 
     private static void hasWhat(Due due) {
-        Bound b = new Bound(due, "26", "0 ROUTINES, 1 BLOCKS, 2 bytes of THE TAPE, 3 APART, 4 ALIGN, 5 k, 6 what undo() could. BAD.");
+        Bound b = new Bound(due, "26",
+            "0 ROUTINES, 1 BLOCKS, 2 bytes of THE TAPE, 3 APART, 4 ALIGN, 5 k, 6 what undo() could. BAD.");
         int[] none = {0, 0, 0, 0, 1, 4, 0};
         int[] rich = {4, 8, 10, 1, 4, 3, 3};
         int[] full = {6, 40, 200, 0, 1, 4, 12};
@@ -539,10 +583,12 @@ final class RunBoundsTest {
         pageOf64(due);
         lastKPages(due);
         touchedAnew(due);
+        badIsFirst(due);
         says(due);
         tears(due);
         runsRefused(due);
         ranRefused(due);
+        latestRun(due);
         passedRefused(due);
         learned(due);
         learnRefused(due);

@@ -43,8 +43,8 @@ final class States {
         };
     }
 
-    /** ROUTINE 0 has BLOCKS 0, 2, 3, 5, ROUTINE 1 has 1, 4, 6, ROUTINE 2 has 7, ROUTINE 3 none. */
-    static void rich(FallRows x) {
+    /** ROUTINE 0 has BLOCKS 0, 2, 3, 5, ROUTINE 1 has 1, 4, 6, ROUTINE 2 has 7, ROUTINE 3 none. Nothing was laid yet. */
+    static void unlaid(FallRows x) {
         routines(4).on(x);
         int[] routines = {0, 1, 0, 0, 1, 0, 1, 2};
         int[] sizes = {20, 5, 130, 7, 66, 3, 9, 1};
@@ -76,6 +76,10 @@ final class States {
         x.swap(4, 6);
         x.order(0, 3);
         x.run(0, 0);
+    }
+
+    static void rich(FallRows x) {
+        unlaid(x);
         x.run(0, 1);
     }
 
