@@ -284,10 +284,10 @@ final class LayoutBoundsTest {
         b.are("of another order, SHORT again", LayoutTest.laid(x, 0), "0 5 4 0 2 0");
         b.are("of another order, SHORT again", LayoutTest.told(x), "137 0 2 0 0 0");
         b.are("their bytes", LayoutTest.image(x, 0, 9), "0 112 4 235 2 3 195 2 195");
-        x = Bound.made(sizes(1, 1, 1, 127, 1).then(States.end(2, TEST, 4, 4)));
-        b.are("another BLOCK's LONG ones", LayoutTest.laid(x, 2), "4 16 11 2 2 1");
-        x.move(3, 1);
-        b.are("another BLOCK's, SHORT again", LayoutTest.laid(x, 2), "132 135 2 0 1 0");
+        x = Bound.made(sizes(1, 127, 1).then(States.end(2, TEST, 0, 0)));
+        b.are("the last BLOCK's LONG ones", LayoutTest.laid(x, 2), "130 142 11 2 2 1");
+        x.swap(1, 2);
+        b.are("once the last BLOCK's, SHORT again", LayoutTest.laid(x, 2), "2 7 4 0 2 0");
     }
 
     private static void noneGetsShortAgain(Due due) {
