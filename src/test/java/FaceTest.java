@@ -10,6 +10,8 @@ import java.util.Collections;
 import java.util.HashSet;
 import java.util.List;
 import java.util.Set;
+import java.util.regex.Matcher;
+import java.util.regex.Pattern;
 
 /** The public face is the document's and no more; the source keeps to what LANGUAGE.md lets be looked up by words. */
 final class FaceTest {
@@ -50,13 +52,11 @@ final class FaceTest {
         for (Class<?> inside : FallRows.class.getDeclaredClasses()) {
             due.holds(inside + " is static", Modifier.isStatic(inside.getModifiers()));
             due.holds(inside + " is not public", !Modifier.isPublic(inside.getModifiers()));
-            due.holds(inside + " has some twenty fields", inside.getDeclaredFields().length <= 36);
             for (Method method : inside.getDeclaredMethods()) {
                 due.holds(inside + "." + method.getName() + " bears no public name",
                     !publicNames.contains(method.getName()));
             }
         }
-        due.holds("some twelve classes", FallRows.class.getDeclaredClasses().length <= 12);
     }
 
     private static void fields(Due due) throws IllegalAccessException {
@@ -79,9 +79,14 @@ final class FaceTest {
         due.holds("final", Modifier.isFinal(FallRows.class.getModifiers()));
     }
 
-    private static void words(Due due) throws java.io.IOException {
+    /** The source without its comments. */
+    private static String code() throws java.io.IOException {
         String text = Files.readString(Path.of("src/main/java/FallRows.java"));
-        String code = text.replaceAll("(?s)/\\*.*?\\*/", " ").replaceAll("//[^\n]*", " ");
+        return text.replaceAll("(?s)/\\*.*?\\*/", " ").replaceAll("//[^\n]*", " ");
+    }
+
+    private static void words(Due due) throws java.io.IOException {
+        String code = code();
         Set<String> used = new HashSet<>(Arrays.asList(code.split("[^A-Za-z0-9_]+")));
         String[] banned = {"throw", "throws", "try", "catch", "finally", "synchronized", "assert", "package",
             "HashMap", "Map", "Random", "Thread", "double", "float", "null", "instanceof", "Exception"};
@@ -94,11 +99,47 @@ final class FaceTest {
             !code.replace("import java.util.Arrays;", "").contains("import"));
     }
 
+    /** Rule 11, and rule 5: no static field that could change. */
+    private static void sizes(Due due) {
+        List<Class<?>> all = new ArrayList<>(Arrays.asList(FallRows.class.getDeclaredClasses()));
+        all.add(FallRows.class);
+        due.holds("some twelve classes", all.size() <= 12);
+        for (Class<?> one : all) {
+            int held = 0;
+            for (Field field : one.getDeclaredFields()) {
+                boolean isStatic = Modifier.isStatic(field.getModifiers());
+                held += isStatic ? 0 : 1;
+                due.holds(field + " is a constant", !isStatic || Modifier.isFinal(field.getModifiers()));
+            }
+            due.holds(one + " has some twenty fields", held <= 20);
+            for (Method method : one.getDeclaredMethods()) {
+                due.holds(method + " takes at most seven", method.getParameterCount() <= 7);
+            }
+        }
+    }
+
+    /** Rule 4; and rows are made with the object alone, so that no run of calls can fill the room. */
+    private static void library(Due due) throws java.io.IOException {
+        Set<String> allowed = Set.of("Math.abs", "Math.max", "Math.min", "Integer.bitCount", "System.arraycopy",
+            "Arrays.fill");
+        Matcher calls = Pattern.compile("\\b(Math|Integer|Long|System|Arrays|String|List)\\.\\w+").matcher(code());
+        while (calls.find()) {
+            due.holds(calls.group() + " is of the library that may be used", allowed.contains(calls.group()));
+        }
+        for (String line : code().split("\n")) {
+            due.holds("made with the object: " + line, !line.matches(".*\\bnew\\b.*")
+                || line.matches(" +final \\w+\\[\\] \\w+ = new \\w+\\[.*\\];")
+                || line.matches(" {8}\\w+ = new \\w+[(\\[].*;"));
+        }
+    }
+
     public static void main(String[] args) throws Exception {
         Due due = new Due();
         methods(due);
         fields(due);
+        sizes(due);
         words(due);
+        library(due);
         due.finish();
     }
 }
